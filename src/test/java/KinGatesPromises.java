@@ -117,6 +117,9 @@ public final class KinGatesPromises {
     promise = 4;
     taken("", 0);
     taken("   ", 0);
+    taken(" ".repeat(160), 0);
+    taken(" ".repeat(154) + "plain;", 1);
+    taken("plan;" + "gate 9;".repeat(3), 4);
     taken(HOUSE, 10);
     taken("  plain  ;   plain0;marry0 1;marry 1 0;gate9 01;plan;", 6);
     taken("plan 50 52 00 1;plain;plain;plain;plain;plain;plain;gate 0;gate 0;gate 0;", 10);
@@ -142,6 +145,14 @@ public final class KinGatesPromises {
     due("seen", x.count(0), 0);
     due("images", x.count(1), 0);
     due("cells stay", x.count(3), 5);
+    put(x, "plain;gate 0;plan 0;");
+    due("a plan", x.text(), 3);
+    due("it goes", x.go(0, 0), 1);
+    due("guesses are by itself", x.parents(0), 64);
+    put(x, "plain;gate 0;plan 0 0;");
+    due("a plan again in another text", x.text(), 3);
+    due("went is 0 at first", x.gate(0, 2), 0);
+    due("acts", x.rule(4), 2);
     due("text() of nothing", x.text(), 0);
     due("people", x.rule(0), 0);
     due("gates", x.rule(3), 0);
@@ -155,6 +166,18 @@ public final class KinGatesPromises {
     refused("plain;plain 000;", 1, 12);
     refused("plain\u0000;", 1, 5);
     refused("twin;", 2, 0);
+    refused("z;", 2, 0);
+    refused("a;", 2, 0);
+    refused("`", 1, 0);
+    refused("{", 1, 0);
+    refused("/", 1, 0);
+    refused(":", 1, 0);
+    refused("plainz;", 2, 0);
+    refused("xlain;", 2, 0);
+    refused("plaix;", 2, 0);
+    refused("plan".repeat(40), 2, 0);
+    refused(" ".repeat(154) + "gate 1", 2, 160);
+    refused(" ".repeat(156) + "gate", 2, 160);
     refused("plains;", 2, 0);
     refused("pla in;", 2, 0);
     refused("estranged;", 2, 0);
@@ -198,6 +221,8 @@ public final class KinGatesPromises {
     refused("plan 0 0 0 0 0 0 0 0 x;", 2, 21);
     refused("marry 0 1;plain; ", 6, 17);
     refused("plain;feud 0 1;", 6, 15);
+    refused("plain;feud 1 0;", 6, 15);
+    refused("plain;marry 1 0;", 6, 16);
     refused("plain;gate 0 1;", 6, 15);
     refused("plain;gate 0;plan 1;", 6, 20);
     refused("plain;gate 0;plan 10;", 6, 21);
@@ -338,6 +363,9 @@ public final class KinGatesPromises {
     due("alter(3, 0, 1)", x.alter(3, 0, 1), 2);
     due("alter(3, 0, 3)", x.alter(3, 0, 3), 1);
     due("tie", x.one(3, 2), 4);
+    due("alter(3, 0, 0)", x.alter(3, 0, 0), 3);
+    due("tie", x.one(3, 2), 1);
+    due("alter(3, 0, 3)", x.alter(3, 0, 3), 0);
     due("alter(3, 0, 4)", x.alter(3, 0, 4), BAD);
     due("alter(3, 0, -1)", x.alter(3, 0, -1), BAD);
     due("alter(3, 0, NONE)", x.alter(3, 0, NONE), BAD);
@@ -519,6 +547,8 @@ public final class KinGatesPromises {
     due("ahead(2)", y.ahead(2), BAD);
     due("ahead(-1)", y.ahead(-1), BAD);
     due("nothing is changed", y.gate(1, 1), 3);
+    y.cut(1);
+    due("ahead(0)", y.ahead(0), 0);
     y.cut(0);
     due("ahead(0)", y.ahead(0), NONE);
     due("ahead(1)", y.ahead(1), 3);
@@ -589,6 +619,10 @@ public final class KinGatesPromises {
     due("send(-1, 0, 0)", x.send(-1, 0, 0), BAD);
     due("send(0, 3, 0)", x.send(0, 3, 0), BAD);
     due("nothing is changed", x.rule(5), 0);
+    KinGates z = told("plain;plain 0;plain 0;plain 2;gate 1 1;");
+    due("by way of 0", z.send(3, 0, 0), 2);
+    due("by way of 0", z.send(3, 0, 10), 0);
+    due("by way of 0", z.send(3, 0, 11), 2);
     KinGates y = told("plain;plain 0;plain 0;plain 1;marry 2 3;gate 1 0;");
     due("the first of several", y.send(3, 0, 10), 1);
     due("send(3, 0, 0)", y.send(3, 0, 0), 1);
@@ -614,6 +648,9 @@ public final class KinGatesPromises {
     KinGates y = told("plain;plain;plain 1;plain;gate 1;");
     due("a line of three", y.match(0, 0), 1);
     due("a line of three", y.match(0, 1), 3);
+    KinGates z = told("plain;plain 0;plain 0;plain 1;plain;plain 4;gate 1;");
+    due("all six", z.match(0, 0), 24);
+    due("all six", z.match(0, 1), 6);
     due("one alone", told("plain;gate 0;").match(0, 0), NONE);
     due("nobody", told("gate 0;").match(0, 1), NONE);
   }
@@ -759,8 +796,18 @@ public final class KinGatesPromises {
     due("look(3, 2)", x.look(3, 2), BAD);
     due("look(3, -1)", x.look(3, -1), BAD);
     x.forget(0);
+    x.set(0, 1, 2);
+    x.set(0, 0, 0);
     x.cut(0);
     due("no plan", x.look(3, 0), NONE);
+    x.plan(30);
+    x.plan(30);
+    due("from now on: the first of two alike", x.look(3, 0), NONE);
+    x.alter(3, 0, 2);
+    due("a bastard of 2 alone goes behind 2", x.look(3, 0), 0);
+    due("three are left at the worst", x.look(3, 1), 3);
+    x.see(1, true);
+    due("as all is now", x.parents(3), 4);
   }
 
   private static void drifting() {
