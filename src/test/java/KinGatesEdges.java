@@ -435,6 +435,38 @@ public final class KinGatesEdges {
     due("rule(5)", x.rule(5), 0);
   }
 
+  private static void whatStays() {
+    sentence = "text tells PEOPLE, MARRIAGES, FEUDS, GATES, THE PLAN; SHEETS and torn() stay";
+    KinGates x = told("plain;plain 0;gate 1;plan 0;");
+    x.sheet(0, 1, 4);
+    x.lay(0, 2, 1);
+    due("read(0, 1, 2, 2)", x.read(0, 1, 2, 2), 1);
+    due("torn()", x.torn(), 2);
+    put(x, "plain;plain 0;gate 1;");
+    due("text()", x.text(), 3);
+    due("torn()", x.torn(), 2);
+    due("count(3)", x.count(3), 4);
+    due("read(0, 1, 2, 1)", x.read(0, 1, 2, 1), 1);
+    due("gate(0, 1), the CELL is as it was laid", x.gate(0, 1), 1);
+    sentence = "an IMAGE is of what a text tells alone: THE TAPE, fault(), SEEN, SHEETS, torn() stay";
+    x.keep(0);
+    put(x, "A");
+    due("text()", x.text(), -10);
+    x.see(0, false);
+    due("read(0, 2, 0, 1)", x.read(0, 2, 0, 1), 0);
+    x.lay(0, 0, 1);
+    put(x, "plain");
+    due("back(0)", x.back(0), 1);
+    due("fault()", x.fault(), 1);
+    due("torn()", x.torn(), 3);
+    due("count(0)", x.count(0), 1);
+    due("count(2)", x.count(2), 5);
+    due("read(0, 1, 0, 1)", x.read(0, 1, 0, 1), 1);
+    due("gate(0, 1), the CELL is as it was laid", x.gate(0, 1), 1);
+    x.feed(';');
+    due("text() of what was fed ahead", x.text(), 1);
+  }
+
   // ---- Terms: gates
 
   private static void lettingThrough() {
@@ -1129,6 +1161,11 @@ public final class KinGatesEdges {
     due("back(1)", x.back(1), 0);
     due("gate(0, 1)", x.gate(0, 1), NONE);
     due("back(0) once more", x.back(0), 1);
+    x.go(1, 0);
+    due("keep(0), in place of what it was", x.keep(0), 1);
+    x.back(1);
+    due("back(0), the latest", x.back(0), 2);
+    due("gate(0, 1)", x.gate(0, 1), 1);
     sentence = "keep: all of them, back: all is as IMAGE k";
     KinGates all = told("plain;adopted 0;bastard 0;estrange 0;plain 0;plain 0;gate 1;gate 2 2;gate 3 3;"
         + "plan 0 11 22 30 41 52 1 2;");
@@ -1339,6 +1376,7 @@ public final class KinGatesEdges {
     tokens();
     faultOrder();
     toldAnew();
+    whatStays();
     lettingThrough();
     wentAtMost();
     newObject();

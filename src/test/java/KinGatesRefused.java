@@ -36,6 +36,11 @@ public final class KinGatesRefused {
 
   // ---- the states
 
+  /** What is SEEN as it is leaves some PARENTS and REACHES over, so that another SEEN would show. */
+  private static void seeAsItIs(KinGates x, int i) {
+    x.see(i, (x.runs(0) >> i & 1) == 1);
+  }
+
   /** Some of everything: 5 ONES, 2 GATES, 1 MARRIAGE, 1 FEUD, 6 ACTS, 2 SEEN, IMAGE 0, a FAULT each. */
   private static KinGates house() {
     KinGates x = new KinGates();
@@ -45,8 +50,8 @@ public final class KinGatesRefused {
     x.keep(0);
     x.go(1, 0);
     x.alter(4, 0, 1);
-    x.see(0, true);
-    x.see(4, false);
+    seeAsItIs(x, 0);
+    seeAsItIs(x, 4);
     x.sheet(0, 1, 6);
     x.lay(0, 1, 1);
     x.lay(0, 2, 4);
@@ -73,8 +78,8 @@ public final class KinGatesRefused {
     }
     x.keep(1);
     x.set(2, 1, 3);
-    for (int i = 0; i < 6; i++) {
-      x.see(i, i % 2 == 0);
+    for (int i = 2; i < 8; i++) {
+      seeAsItIs(x, i);
     }
     for (int k = 0; k < 4; k++) {
       x.sheet(k, k % 3, 40);
@@ -101,6 +106,8 @@ public final class KinGatesRefused {
       stands("count(" + i + ")", house.count(i), someCounts[i]);
       stands("count(" + i + ") when full", full.count(i), mostCounts[i]);
     }
+    stands("reaches(0) has some", house.reaches(0) > 0 ? 1 : 0, 1);
+    stands("reaches(0) when full has some", full.reaches(0) > 0 ? 1 : 0, 1);
     stands("torn()", house.torn(), 2);
     stands("fault()", house.fault(), 1);
   }
@@ -385,8 +392,11 @@ public final class KinGatesRefused {
     c.due(FULL, "marry(0, 1)", x -> x.marry(0, 1));
     c.due(FULL, "feud(0, 1)", x -> x.feud(0, 1));
     c.due(FULL, "plan(11)", x -> x.plan(11));
-    c.due(FULL, "see(0, false)", x -> x.see(0, false));
-    c.due(FULL, "see(7, true)", x -> x.see(7, true));
+    for (int i = 0; i < 8; i++) {
+      int at = i;
+      c.due(FULL, "see(" + i + ", false)", x -> x.see(at, false));
+      c.due(FULL, "see(" + i + ", true)", x -> x.see(at, true));
+    }
     c.due(FULL, "match(0, 0)", x -> x.match(0, 0));
     c.bad("undo(0, 3)", x -> x.undo(0, 3));
     c.bad("undo(1, 3)", x -> x.undo(1, 3));
