@@ -56,8 +56,7 @@ public final class KinGates {
   private final County firstImage = new County();
   private final County secondImage = new County();
   private final boolean[] imageKept = new boolean[2];
-  private final Tape tape = new Tape();
-  private final Parser parser = new Parser(tape, trial);
+  private final Parser parser = new Parser();
   private final Kin kin = new Kin();
   private final Course course = new Course();
   private final Lines lines = new Lines();
@@ -76,25 +75,25 @@ public final class KinGates {
     if (c < 0 || c > 127) {
       return BAD;
     }
-    return tape.put(c) ? tape.length : FULL;
+    return parser.tape.put(c) ? parser.tape.length : FULL;
   }
 
   public int end(int n) {
-    if (n < 0 || n > tape.length) {
+    if (n < 0 || n > parser.tape.length) {
       return BAD;
     }
-    int had = tape.length;
-    tape.length = n;
+    int had = parser.tape.length;
+    parser.tape.length = n;
     return had;
   }
 
   public int text() {
     parser.readText();
-    tape.length = 0;
+    parser.tape.length = 0;
     if (parser.found != 0) {
       return -10 - parser.foundAt;
     }
-    county.copyFrom(trial);
+    county.copyFrom(parser.draft);
     witness.size = 0;
     imageKept[0] = false;
     imageKept[1] = false;
@@ -575,7 +574,7 @@ public final class KinGates {
       case 1:
         return (imageKept[0] ? 1 : 0) + (imageKept[1] ? 1 : 0);
       case 2:
-        return tape.length;
+        return parser.tape.length;
       case 3:
         return sheets.sizes[0];
       case 4:
@@ -1375,19 +1374,14 @@ public final class KinGates {
     }
   }
 
-  /** Reads THE TAPE into a county, up to the first FAULT. */
+  /** Reads THE TAPE into a draft of a county, up to the first FAULT. */
   private static final class Parser {
-    private final Tape tape;
-    private final County draft;
+    final Tape tape = new Tape();
+    final County draft = new County();
     int found;
     int foundAt;
     int lineCount;
     private boolean planTold;
-
-    Parser(Tape tape, County draft) {
-      this.tape = tape;
-      this.draft = draft;
-    }
 
     void readText() {
       draft.clear();

@@ -1,11 +1,16 @@
 import java.lang.management.ManagementFactory;
+import java.lang.reflect.Array;
 import java.lang.reflect.Constructor;
 import java.lang.reflect.Field;
 import java.lang.reflect.Method;
 import java.lang.reflect.Modifier;
 import java.nio.file.Files;
 import java.nio.file.Path;
+import java.util.ArrayDeque;
+import java.util.Collections;
+import java.util.IdentityHashMap;
 import java.util.List;
+import java.util.Set;
 import java.util.TreeSet;
 import java.util.regex.Matcher;
 import java.util.regex.Pattern;
@@ -70,6 +75,9 @@ public final class KinGatesFace {
       holds(c + " is static", Modifier.isStatic(c.getModifiers()));
       holds(c + " is not public", !Modifier.isPublic(c.getModifiers()) && !Modifier.isProtected(c.getModifiers()));
       check(c, names);
+      for (Constructor<?> made : c.getDeclaredConstructors()) {
+        holds(made + " is given nothing of the object that is being made", made.getParameterCount() == 0);
+      }
     }
   }
 
@@ -142,6 +150,32 @@ public final class KinGatesFace {
     holds("half a million calls make no objects, but took " + used + " bytes", used < 100_000);
   }
 
+  /** Objects and arrays that a new object is made of, and their fields and elements. */
+  private static void roomOfOne() throws Exception {
+    Set<Object> met = Collections.newSetFromMap(new IdentityHashMap<>());
+    ArrayDeque<Object> open = new ArrayDeque<>(List.of(new KinGates()));
+    int fields = 0;
+    while (!open.isEmpty()) {
+      Object o = open.pop();
+      if (!met.add(o)) continue;
+      if (o.getClass().isArray()) {
+        holds("rows are of numbers", o.getClass().getComponentType().isPrimitive());
+        fields += Array.getLength(o);
+        continue;
+      }
+      for (Field f : o.getClass().getDeclaredFields()) {
+        if (Modifier.isStatic(f.getModifiers())) continue;
+        fields++;
+        f.setAccessible(true);
+        if (f.getType().isPrimitive()) continue;
+        holds(f + " is there from the first", f.get(o) != null && Modifier.isFinal(f.getModifiers()));
+        if (f.get(o) != null) open.push(f.get(o));
+      }
+    }
+    holds("a new object is made of " + met.size() + " objects, at most 120", met.size() <= 120);
+    holds("a new object has " + fields + " fields and elements, at most 2400", fields <= 2400);
+  }
+
   /** Whatever the numbers are, a call answers. */
   private static void farNumbers() {
     int[] far = {Integer.MIN_VALUE, Integer.MIN_VALUE + 1, -60, -5, -4, -1, 0, 1, 2, 9, 10, 15, 40, 1 << 16,
@@ -170,6 +204,7 @@ public final class KinGatesFace {
     classesInside();
     source(Files.readString(Path.of("src/main/java/KinGates.java")));
     room();
+    roomOfOne();
     farNumbers();
     System.out.println(wrong == 0 ? "face, language and room are as due" : wrong + " are not as due");
     if (wrong != 0) System.exit(1);
